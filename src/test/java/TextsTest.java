@@ -106,6 +106,8 @@ public final class TextsTest {
         fault("b;b;b;q;", 6);
         fault("n61;b;x", 6);
         fault("+", 0);
+        fault("b;".repeat(74) + "b ", 150);
+        fault("b;".repeat(74) + "bb", 149);
         fault("n+1;", 1);
         fault("n1;\u0000", 3);
     }
