@@ -14,7 +14,7 @@ final class Checks {
         due(what, holds ? 1 : 0, 1);
     }
 
-    /** A call that must be refused so: counted once under its kind, all else as it was. */
+    /** A call that must be refused so, with all else that can be asked as it was. */
     void refused(PastAndClear x, String call, long before, long got, int want) {
         due(call, got, want);
         due(call + " and all else", withoutTallies(x), before);
